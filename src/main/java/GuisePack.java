@@ -323,7 +323,9 @@ public final class GuisePack {
         if (!told || !isRule(what) || !isBound(what, v)) {
             return HIDDEN;
         }
-        return current().total() - totalBy(what, v);
+        int total = current().total();
+        layOther(what, v);
+        return total - otherPlan.total();
     }
 
     public int less(int i) {
@@ -343,10 +345,11 @@ public final class GuisePack {
         }
         current();
         int best = LOWEST[what];
-        int least = totalBy(what, best);
-        for (int v = best + 1; v <= HIGHEST[what]; v++) {
-            int total = totalBy(what, v);
-            if (total < least) {
+        int least = 0;
+        for (int v = LOWEST[what]; v <= HIGHEST[what]; v++) {
+            layOther(what, v);
+            int total = otherPlan.total();
+            if (v == LOWEST[what] || total < least) {
                 least = total;
                 best = v;
             }
@@ -538,11 +541,10 @@ public final class GuisePack {
     }
 
     // Asked only behind current(), which has learnt what FITS.
-    private int totalBy(int what, int v) {
+    private void layOther(int what, int v) {
         otherPlan.lay();
         otherPlan.rules[what] = v;
         otherPlan.rank();
-        return otherPlan.total();
     }
 
     private int placesOf(int i, int pairs) {
@@ -904,10 +906,8 @@ public final class GuisePack {
 
         /** The sum as bits; what is no number is always MISSING. */
         long plus(long a, long b) {
-            if (a == MISSING || b == MISSING) {
-                return MISSING;
-            }
             if (!isFinite(a)) {
+                // Of two that are like, or of one with a FINITE one, it is a itself, MISSING or infinite.
                 return isFinite(b) || a == b ? a : MISSING;
             }
             if (!isFinite(b)) {
@@ -1195,14 +1195,12 @@ public final class GuisePack {
         }
 
         private boolean fillingIn() {
-            while ((bitAt & 7) != 0) {
-                if (!bitsIn(1)) {
-                    return false;
-                }
-                if (got != 0) {
-                    at = (bitAt - 1) >> 3;
-                    return false;
-                }
+            if (!bitsIn(-bitAt & 7)) {
+                return false;
+            }
+            if (got != 0) {
+                at = (bitAt - 1) >> 3;
+                return false;
             }
             at = bitAt >> 3;
             return true;
@@ -1506,7 +1504,8 @@ public final class GuisePack {
         }
 
         int sizeOf(int block) {
-            return Math.min(rules[BLOCK], size - startOf(block));
+            int left = size - startOf(block);
+            return left < rules[BLOCK] ? left : rules[BLOCK];
         }
 
         long bitsAt(int i) {
@@ -1562,23 +1561,25 @@ public final class GuisePack {
         // ---- COSTS ----
 
         private int sampleCost(int block, int byPair) {
-            int sampled = Math.min(sizeOf(block), rules[SAMPLE]);
-            measure(block, sampled, byPair);
+            int all = sizeOf(block);
+            int sampled = all < rules[SAMPLE] ? all : rules[SAMPLE];
+            measure(block, all, sampled, byPair);
             return measuredCost(sampled);
         }
 
         int decimalCost(int block, int byPair) {
-            measureBlock(block, byPair);
-            return measuredCost(sizeOf(block));
+            int all = sizeOf(block);
+            measure(block, all, all, byPair);
+            return measuredCost(all);
         }
 
         void measureBlock(int block, int byPair) {
-            measure(block, sizeOf(block), byPair);
+            int all = sizeOf(block);
+            measure(block, all, all, byPair);
         }
 
-        private void measure(int block, int sampled, int byPair) {
+        private void measure(int block, int all, int sampled, int byPair) {
             int start = startOf(block);
-            int all = sizeOf(block);
             least = 0;
             greatest = 0;
             fitting = 0;

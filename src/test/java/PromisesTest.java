@@ -336,6 +336,19 @@ public final class PromisesTest {
         Due.blockFault(15, split(12, one, 1, Due.joined(seven, Due.row(0, 16, 0))));
         Due.blockFault(16, split(12, one, 1, Due.joined(seven, Due.row(0, 15))));
         Due.blockFault(17, split(5, one, 1, Due.joined(new int[8], Due.row(0, 0, 32))));
+        // The fourth CODE ends with byte 20's last bit: wrong there, not behind it.
+        int[] fourth = Due.joined(Due.row(2, 4, 12, 5), five, Due.row(0), new int[20]);
+        Due.blockFault(35, Due.joined(fourth, Due.row(0b00000101)));
+        Due.blockFault(36, Due.joined(fourth, Due.row(0b00000100)));
+        // Three VALUES of 48 LOW bits: places rise and leave places for those to come.
+        int[] three48 = Due.joined(Due.row(2, 3, 16, 1), one, Due.row(2), new int[18]);
+        Due.blockFault(NONE, Due.checked(Due.joined(three48, Due.row(0, 0, 9, 2, 0, 9))));
+        Due.blockFault(NONE, Due.checked(Due.joined(three48, Due.row(1, 0, 9, 2, 0, 9))));
+        Due.blockFault(25, Due.joined(three48, Due.row(2, 0, 9, 2, 0, 9)));
+        Due.blockFault(28, Due.joined(three48, Due.row(1, 0, 9, 1, 0, 9)));
+        Due.blockFault(28, Due.joined(three48, Due.row(1, 0, 9, 0, 0, 9)));
+        Due.blockFault(28, Due.joined(three48, Due.row(0, 0, 9, 3, 0, 9)));
+        Due.blockFault(6, 2, 3, 16, 1, 0, 3, 4);
     }
 
     // Promise 5
@@ -534,6 +547,9 @@ public final class PromisesTest {
         Due.is("EXCEPTIONS as SPLIT", y.block(0, 5), 16);
         Due.is("PARTS", y.block(0, 7), 1);
         Due.is("about an EXCEPTION", y.about(4, 5), 1);
+        // A bit in a last byte costs that byte.
+        Due.is("49 bits as SPLIT", Due.told("sl15;1").block(0, 4), 6 + 2 + 7);
+        Due.is("9 bits as DECIMAL", Due.told("sb16;" + times(8, "1;") + "2").cost(0, 0, 0), 15 + 2);
         // Of several FORMS with the least COST the one told ahead.
         GuisePack z = Due.told("0.5;n");
         Due.is("RAW of 19 bytes", z.block(0, 3), 19);
@@ -593,6 +609,9 @@ public final class PromisesTest {
         Due.rows("DECIMAL with an EXCEPTION", Due.written(some, 0),
             Due.checked(1, 8, 0, 0, 1, 0, 0, 0, 0, 0, 0, 0, 3, 3, 0b00000000, 0b10100111, 0b00101110,
                 1, 0x7f, 0xf8, 0, 0, 0, 0, 0, 0));
+        // 0.3, 0.6 and 0.7 FIT by 6, 5 (3 times a tenth isn't 0.3).
+        Due.rows("DECIMAL by an odd f", Due.written(Due.told("0.3;0.6;0.7"), 0),
+            Due.checked(1, 3, 6, 5, 0, 0, 0, 0, 0, 0, 0, 0, 3, 3, 0b00001110, 0));
         GuisePack y = Due.told("sl16d2;x4011223344556677;x4011123456789abc;x4011fedcba987654;x40117777777777aa;"
             + "x5011000000000001;x5011000000000002;xc022000000000003");
         int[] due = Due.checked(Due.joined(Due.row(2, 7, 16, 2, 0x40, 0x11, 0x50, 0x11, 1),
@@ -829,7 +848,27 @@ public final class PromisesTest {
         }
         Due.is("undo of a 41st", x.undo(), NONE);
         Due.is("the LOG's length", x.count(3), 22);
+        logged(x, 22);
+        for (int k = 0; k < 45; k++) {
+            x.put(1, 2000 + k);
+        }
+        Due.is("the LOG's length once more", x.count(3), 60);
+        for (int k = 0; k < 60; k++) {
+            Due.is("place in the LOG", x.log(k, 1), k < 45 ? 1 : 0);
+        }
+        for (int k = 0; k < 40; k++) {
+            x.undo();
+        }
+        Due.is("the LOG's length with five more", x.count(3), 27);
         Due.is("what is asked goes by what is", x.about(0, 0), 1);
+    }
+
+    private static void logged(GuisePack x, int puts) {
+        for (int k = 0; k < puts; k++) {
+            Due.is("LOG sort", x.log(k, 0), 1);
+            Due.is("LOG place", x.log(k, 1), 0);
+            Due.is("LOG size", x.log(k, 2), 2);
+        }
     }
 
     // Promise 27
@@ -857,6 +896,12 @@ public final class PromisesTest {
         Due.is("the latest", x.log(0, 1), 1);
         x.undo();
         Due.is("what had gone is back", x.log(59, 0), 4);
+        Due.is("its number", x.log(59, 1), 2);
+        for (int k = 0; k < 59; k++) {
+            Due.is("LOG sort", x.log(k, 0), 1);
+            Due.is("LOG place", x.log(k, 1), k % 2);
+            Due.is("LOG size", x.log(k, 2), 3);
+        }
     }
 
     // Promise 28
@@ -1024,7 +1069,15 @@ public final class PromisesTest {
         x.drop();
         x.set(0, 2);
         x.put(0, 9);
+        Due.is("BLOCKS ahead of BACK", x.most(0), 1);
+        x.set(0, 16);
+        x.add(1);
+        x.add(1);
+        x.set(0, 2);
+        Due.is("BLOCKS of two", x.most(0), 2);
+        Due.is("PLACES ahead of BACK", x.about(0, 1), NONE);
         Due.is("back", x.back(), 3);
+        Due.is("PLACES behind it", x.about(0, 1), 0);
         Due.is("value(0)", x.value(0), Due.bits(1));
         Due.is("value(2)", x.value(2), 3);
         Due.is("rule(0)", x.rule(0), 8);

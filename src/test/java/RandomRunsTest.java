@@ -30,7 +30,7 @@ public final class RandomRunsTest {
 
     public static void main(String[] args) {
         long first = args.length > 0 ? Long.parseLong(args[0]) : 1;
-        int many = args.length > 1 ? Integer.parseInt(args[1]) : 80;
+        int many = args.length > 1 ? Integer.parseInt(args[1]) : 240;
         int wrong = 0;
         for (long seed = first; seed < first + many; seed++) {
             wrong += new RandomRunsTest(seed).run() ? 0 : 1;

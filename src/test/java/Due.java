@@ -3,14 +3,22 @@ import java.util.NoSuchElementException;
 /** What the tests share: telling texts and bytes, and counting answers that are not due. */
 final class Due {
     private static int wrong = 0;
+    private static int asked = 0;
+    private static String heading = "";
 
     private Due() {
     }
 
+    /** Which sentence of the document the answers from here on are due by. */
+    static void sentence(String where, String words) {
+        heading = where + ", \"" + words + "\": ";
+    }
+
     static void is(String call, long got, long due) {
+        asked++;
         if (got != due) {
             wrong++;
-            System.out.println(call + " answered " + got + ", due is " + due);
+            System.out.println(heading + call + " answered " + got + ", due is " + due);
         }
     }
 
@@ -56,6 +64,34 @@ final class Due {
         int size = x.text();
         is("text of \"" + text + "\" is well made", size >= 0, true);
         return x;
+    }
+
+    static String times(int n, String what) {
+        return what.repeat(Math.max(n, 0));
+    }
+
+    /** A COLUMN without a TEXT's bounds: these bits as they are. */
+    static GuisePack of(String rules, long... bits) {
+        GuisePack x = told(rules);
+        for (long value : bits) {
+            x.add(value);
+        }
+        return x;
+    }
+
+    static GuisePack numbers(String rules, double... numbers) {
+        long[] bits = new long[numbers.length];
+        for (int i = 0; i < bits.length; i++) {
+            bits[i] = bits(numbers[i]);
+        }
+        return of(rules, bits);
+    }
+
+    static void values(String what, GuisePack x, long... due) {
+        is(what + ": how many VALUES", x.count(0), due.length);
+        for (int i = 0; i < due.length && i < x.count(0); i++) {
+            is(what + ": value(" + i + ")", x.value(i), due[i]);
+        }
     }
 
     static void fault(String text, int due) {
@@ -116,9 +152,10 @@ final class Due {
     }
 
     static void rows(String call, int[] got, int... due) {
+        asked++;
         if (!java.util.Arrays.equals(got, due)) {
             wrong++;
-            System.out.println(call + " answered " + java.util.Arrays.toString(got)
+            System.out.println(heading + call + " answered " + java.util.Arrays.toString(got)
                 + ", due is " + java.util.Arrays.toString(due));
         }
     }
@@ -128,7 +165,7 @@ final class Due {
     }
 
     static void finish() {
-        System.out.println(wrong == 0 ? "all answers are as due" : wrong + " answers are not as due");
+        System.out.println(wrong == 0 ? "all " + asked + " answers are as due" : wrong + " answers are not as due");
         if (wrong != 0) {
             System.exit(1);
         }

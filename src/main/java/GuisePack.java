@@ -624,6 +624,11 @@ public final class GuisePack {
         return !isFinite(bits) && (bits & FRACTION) != 0;
     }
 
+    // BLOCK is 2 at least in each state; what divides is looked at all the same.
+    private static int blocksFor(int size, int each) {
+        return each > 0 ? (size + each - 1) / each : 0;
+    }
+
     private static int bitLength(long number) {
         int length = 0;
         while (length < 64 && number >>> length != 0) {
@@ -715,7 +720,7 @@ public final class GuisePack {
         }
 
         int blocks() {
-            return (size + rules[BLOCK] - 1) / rules[BLOCK];
+            return blocksFor(size, rules[BLOCK]);
         }
 
         int firstLike(int i) {
@@ -1492,11 +1497,11 @@ public final class GuisePack {
         // ---- BLOCKS ----
 
         int blocks() {
-            return (size + rules[BLOCK] - 1) / rules[BLOCK];
+            return blocksFor(size, rules[BLOCK]);
         }
 
         int blockAt(int i) {
-            return i / rules[BLOCK];
+            return rules[BLOCK] > 0 ? i / rules[BLOCK] : 0;
         }
 
         int startOf(int block) {
@@ -1568,9 +1573,8 @@ public final class GuisePack {
         }
 
         int decimalCost(int block, int byPair) {
-            int all = sizeOf(block);
-            measure(block, all, all, byPair);
-            return measuredCost(all);
+            measureBlock(block, byPair);
+            return measuredCost(sizeOf(block));
         }
 
         void measureBlock(int block, int byPair) {

@@ -26,6 +26,7 @@ public final class BlockSentencesTest {
         splitExceptionParts();
         checks();
         tooEarlyAnEnd();
+        checksTooEarly();
         behindTheCheck();
         peekPlaces();
         takenDecimals();
@@ -337,6 +338,9 @@ public final class BlockSentencesTest {
             }
             if (h < 8) {
                 wrongAt(7, with(good, 7, 255));
+                wrongAt(7, with(split(16, h, 2, 0), 7, 1 << h));
+                wrongAt(7, with(split(1 << h > 16 ? 16 : 1 << h, h, 2, 0), 7, 1 << h));
+                wrongAt(5, with(split(16, h, 1, 0), 5, 1 << h));
             } else {
                 wellMade(with(good, 7, 255));
             }
@@ -467,12 +471,59 @@ public final class BlockSentencesTest {
         int[][] blocks = {raw(1), raw(16),
             Due.joined(decimal(5, 14, 7, 2, -9, 37, packed(Due.times(185, "1"))), exceptions(8, 1, 4)),
             decimal(16, 14, 14, 0, 9, 53, new int[106]),
-            Due.joined(split(5, 7, 5, 3), exceptions(2, 0, 2, 4)), split(16, 4, 8, 0), split(1, 16, 1, 0)};
+            Due.joined(split(5, 7, 5, 3), exceptions(2, 0, 2, 4)), split(16, 4, 8, 0), split(1, 16, 1, 0),
+            Due.joined(splitHead(9, 12, 5, 0), packed(Due.times(9, "100" + Due.times(52, "1")))),
+            Due.joined(splitHead(9, 13, 3, 0), packed(Due.times(9, "10" + Due.times(51, "1"))))};
         for (int[] block : blocks) {
             wellMade(block);
             for (int many = 0; many <= block.length; many++) {
                 Due.blockFault(many, Arrays.copyOf(block, many));
             }
+        }
+    }
+
+    /** A start of a BLOCK and a CHECK of it: wrong there, if no such byte can stand there, else too short. */
+    private static void checkTooEarly(int lowest, int highest, int... start) {
+        int[] bytes = Due.checked(start);
+        int check = bytes[start.length];
+        boolean can = check >= lowest && check <= highest;
+        Due.blockFault(can ? bytes.length : start.length, bytes);
+    }
+
+    private static void checksTooEarly() {
+        Due.sentence("Terms", "last a CHECK (one that stands too early is none)");
+        for (int n = 1; n <= 16; n++) {
+            checkTooEarly(0, 255, 0, n);
+            checkTooEarly(0, 14, 1, n);
+            checkTooEarly(4, 16, 2, n);
+            for (int e = 0; e <= 14; e++) {
+                checkTooEarly(0, e, 1, n, e);
+                for (int f = 0; f <= e; f++) {
+                    checkTooEarly(0, n, 1, n, e, f);
+                    checkTooEarly(0, 53, Due.joined(Due.row(1, n, e, f, 0), Due.eight(31L * n * f + e)));
+                }
+            }
+            for (int h = 4; h <= 16; h++) {
+                checkTooEarly(1, 8, 2, n, h);
+                for (int part = 0; part < 1 << Math.min(h, 8); part += 3) {
+                    checkTooEarly(0, h < 8 ? 0 : (1 << h - 8) - 1, 2, n, h, 1 + part % 8);
+                    checkTooEarly(0, n, 2, n, h, 1, 0, part);
+                }
+            }
+        }
+        for (int h = 4; h <= 16; h++) {
+            for (int low = 0; low < 1 << Math.min(h, 8); low++) {
+                int[] head = split(1, h, 1, 1);
+                head[5] = low;
+                checkTooEarly(0, 0, head);
+                checkTooEarly(0, h < 8 ? 0 : (1 << h - 8) - 1, Due.joined(head, Due.row(0)));
+                checkTooEarly(0, h < 8 ? (1 << h) - 1 : 255, Due.joined(head, Due.row(0, 0)));
+            }
+        }
+        for (int base = 0; base < 300; base++) {
+            int[] head = decimal(2, 0, 0, 1, base, 0);
+            checkTooEarly(0, 1, head);
+            checkTooEarly(0, 255, Due.joined(head, Due.row(1)));
         }
     }
 
@@ -569,6 +620,13 @@ public final class BlockSentencesTest {
             int[] bytes = Due.joined(splitHead(3, h, 2, 1), packed(bits), Due.row(1, 0, 9));
             long part = 1L << 64 - h;
             taken("h " + h, bytes, part, 9L << 64 - h | ones, part | 5);
+        }
+        // An EXCEPTION's CODE may name a PART: the PART told behind stands for all of it, LOW stays.
+        for (int h = 4; h <= 16; h++) {
+            String bits = "11" + bits(-1L, 64 - h) + "11" + bits(0, 64 - h);
+            int[] head = with(splitHead(2, h, 4, 2), 11, 15);
+            long low = (1L << 64 - h) - 1;
+            taken("CODE of an EXCEPTION, h " + h, Due.joined(head, packed(bits), Due.row(0, 0, 0, 1, 0, 6)), low, 6L << 64 - h);
         }
         // With one PART there are no bits of CODE.
         taken("one PART", Due.joined(Due.row(2, 2, 16, 1, 0x40, 0x59, 0), new int[11], Due.row(9)),

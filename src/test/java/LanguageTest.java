@@ -60,6 +60,11 @@ public final class LanguageTest {
         for (String signature : FACE) {
             names.add(signature.substring(signature.indexOf(' ') + 1, signature.indexOf('(')));
         }
+        for (Method method : GuisePack.class.getDeclaredMethods()) {
+            if (Modifier.isPrivate(method.getModifiers())) {
+                Due.is("private " + method.getName() + " bears a public one's name", names.contains(method.getName()), false);
+            }
+        }
         for (Class<?> inside : GuisePack.class.getDeclaredClasses()) {
             Due.is(inside.getName() + " is static", Modifier.isStatic(inside.getModifiers()), true);
             Due.is(inside.getName() + " is not public", Modifier.isPublic(inside.getModifiers()), false);

@@ -325,10 +325,34 @@ public final class PlanSentencesTest {
             Due.checked(Due.joined(Due.row(1, 3, 0, 0, 0), Due.eight(7), Due.row(0))));
         Due.rows("of WIDTH 9", Due.written(Due.told("256;0;1"), 0),
             Due.checked(Due.joined(Due.row(1, 3, 0, 0, 0), Due.eight(0), Due.row(9, 0b10000000, 0, 0, 0b00100000))));
+        // 0.3, 0.6 and 0.7 FIT by 6, 5 (3 times a tenth isn't 0.3).
+        Due.rows("by an odd f", Due.written(Due.told("0.3;0.6;0.7"), 0),
+            Due.checked(Due.joined(Due.row(1, 3, 6, 5, 0), Due.eight(3), Due.row(3, 0b00001110, 0))));
+        for (int n = 8; n <= 16; n++) {
+            for (int width = 1; width <= 17; width++) {
+                bitsOfWidth(n, width);
+            }
+        }
         // Two EXCEPTIONS, the first and the last.
         Due.rows("EXCEPTIONS at both ends", Due.written(Due.told("sb16;i;1;1;1;1;1;1;-0"), 0),
             Due.checked(Due.joined(Due.row(1, 8, 0, 0, 2), Due.eight(1), Due.row(0),
                 Due.row(0), Due.eight(0x7ff0000000000000L), Due.row(7), Due.eight(MINUS))));
+    }
+
+    /** Two BLOCKS, one behind another: bits of filling are 0, and none are left over. */
+    private static void bitsOfWidth(int n, int width) {
+        GuisePack x = Due.told("se0l4d1b" + n);
+        StringBuilder bits = new StringBuilder();
+        for (int i = 0; i < 2 * n; i++) {
+            long whole = i % n == 0 ? 0 : i % n == 1 ? (1L << width) - 1 : (i * 7919L) % (1L << width);
+            x.add(Due.bits(whole));
+            bits.append(bits(whole, width));
+        }
+        for (int k = 0; k < 2; k++) {
+            int[] due = Due.checked(Due.joined(Due.row(1, n, 0, 0, 0), Due.eight(0), Due.row(width),
+                packed(bits.substring(k * n * width, (k + 1) * n * width))));
+            Due.rows("BLOCK " + k + " of " + n + " by " + width, Due.written(x, k), due);
+        }
     }
 
     // ---- SPLIT ----
@@ -660,6 +684,13 @@ public final class PlanSentencesTest {
         for (int k = 0; k < 4; k++) {
             Due.is("PAIR of BLOCK " + k, y.block(k, 2), bestOfFive(y, k));
         }
+        // 0, 0 is the first of the FIVE, but 1, 0 costs the last BLOCK less.
+        GuisePack own = Due.told("sb4e1;" + Due.times(10, "1;9;") + "0.5;1;2;3");
+        Due.is("five(0)", own.five(0), 0);
+        Due.is("PAIR of the first BLOCK", own.block(0, 2), 0);
+        Due.is("PAIR of the last BLOCK", own.block(5, 2), 16);
+        Due.is("COST of the last BLOCK", own.block(5, 3), 18);
+        Due.is("COST by the first of the FIVE", own.cost(5, 0, 0), 25);
         // A PAIR that costs less but is none of the FIVE isn't taken.
         GuisePack z = Due.told("sb2;" + Due.times(7, "1;9;") + "0.0625;0.1875");
         for (int i = 0; i < 5; i++) {
@@ -749,6 +780,10 @@ public final class PlanSentencesTest {
             Due.is("SPLIT", x.block(0, 1), 2);
             Due.is("block(0, 5) as SPLIT of place " + place, x.block(0, 5), 1 << place);
             Due.is("about(" + place + ", 5) as SPLIT", x.about(place, 5), 1);
+            GuisePack y = Due.told("s");
+            Due.bytes(y, Due.written(x, 0));
+            Due.is("take of what was written", y.take(), 16);
+            Due.values("there and back", y, values);
             Due.is("about of another", x.about((place + 1) % 16, 5), 0);
         }
         GuisePack raw = Due.of("sb2", MISSING, ODD[0], MINUS, MINUS, Due.bits(1), Due.bits(1));
@@ -756,6 +791,12 @@ public final class PlanSentencesTest {
         Due.is("block(0, 5) as RAW", raw.block(0, 5), 0);
         Due.is("about(0, 5) as RAW", raw.about(0, 5), 0);
         Due.is("about(1, 5) as RAW", raw.about(1, 5), 0);
+        GuisePack both = Due.told("1;2;n;3;4;5;6;7;n;x123456789abcdef0");
+        Due.is("DECIMAL first", both.block(0, 5), 4);
+        Due.is("RAW behind it", both.block(1, 5), 0);
+        Due.is("about(2, 5)", both.about(2, 5), 1);
+        Due.is("about(8, 5)", both.about(8, 5), 0);
+        Due.is("most(9)", both.most(9), 1);
         // Places of a later BLOCK count from its own first one.
         GuisePack later = Due.told("sb8;1;1;1;1;1;1;1;1;2;n;2;2;2;2;2;2");
         Due.is("block(1, 5)", later.block(1, 5), 2);

@@ -24,6 +24,7 @@ public final class QuestionSentencesTest {
         sumInOrder();
         sumByPairs();
         sumOfFiniteOnes();
+        sumOfEachPower();
         sumThatIsNoNumber();
         sumRefused();
         savedAsNow();
@@ -201,6 +202,13 @@ public final class QuestionSentencesTest {
         double i = 5.5;
         Due.is("none", Due.told("s").sum(1), 0);
         Due.is("none FINITE", Due.told("n;i").sum(1), 0);
+        GuisePack gone = Due.told("5;6");
+        Due.is("two of them", gone.sum(1), Due.bits(11));
+        gone.drop();
+        gone.put(0, MISSING);
+        Due.is("none FINITE any more", gone.sum(1), 0);
+        gone.drop();
+        Due.is("none any more", gone.sum(1), 0);
         Due.is("one", Due.numbers("s", a).sum(1), Due.bits(a));
         Due.is("-0 alone", Due.told("-0").sum(1), MINUS);
         Due.is("-0 and -0", Due.told("-0;-0").sum(1), MINUS);
@@ -246,6 +254,26 @@ public final class QuestionSentencesTest {
         Due.is("up to the first normal one", Due.of("s", 0x000fffffffffffffL, 1L).sum(0), 0x0010000000000000L);
         Due.is("down from it", Due.of("s", 0x0010000000000000L, MINUS | 1).sum(0), 0x000fffffffffffffL);
         Due.is("below 0", Due.of("s", 0x8010000000000000L, 1L).sum(1), 0x800fffffffffffffL);
+    }
+
+    /** Each power of 2, and the numbers beside it, alone: the sum is that number. */
+    private static void sumOfEachPower() {
+        Due.sentence("Paragraph 3", "SUM: .. in double precision (of each size)");
+        GuisePack x = Due.told("0");
+        int asked = 0;
+        for (int exponent = 0; exponent <= 2046; exponent++) {
+            long power = (long) exponent << 52;
+            long[] bits = {power, power + 1, power | (1L << 52) - 1, power + 0x000a5a5a5a5a5a5aL, power | 1L << exponent % 52};
+            for (long number : bits) {
+                if (asked % 200 == 0) {
+                    x = Due.told("0");
+                }
+                long signed = asked % 3 == 0 && number != 0 ? number | MINUS : number;
+                x.put(0, signed);
+                Due.is("sum of " + Long.toHexString(signed), x.sum(asked % 2), signed);
+                asked++;
+            }
+        }
     }
 
     private static void sumThatIsNoNumber() {
@@ -513,6 +541,10 @@ public final class QuestionSentencesTest {
             Due.is("both are unlike", y.most(7), 2);
             Due.is("FINITE one", y.most(5), 1);
         }
+        Due.is("-0 at the first place", Due.told("-0;0;1").most(8), 1);
+        Due.is("-0 at the last place", Due.told("0;1;-0").most(8), 1);
+        Due.is("-0 alone", Due.told("-0").most(8), 1);
+        Due.is("what is near to -0", Due.of("s", MINUS | 1, 0, 1, MINUS | 1L << 62).most(8), 0);
         Due.is("infinite ones are not MISSING", Due.told("i;-i").most(6), 0);
         Due.is("64 MISSING ones", Due.of("s", java.util.stream.LongStream.range(0, 64).map(k -> MISSING + k).toArray()).most(7), 64);
         Due.sentence("Promise 35", "unlike PARTS by HIGH (10)");

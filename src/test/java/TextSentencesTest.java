@@ -596,6 +596,9 @@ public final class TextSentencesTest {
             Due.fault(text + ";q", 82);
             Due.fault(text + " ;1", 83);
             Due.fault(text + " ;", 83);
+            // Blanks may stand there as between all signs: what comes behind them is wrong.
+            Due.fault(text + "; ", 83);
+            Due.fault(text + ";  1", 84);
             Due.fault(text + "q", 81);
         }
     }

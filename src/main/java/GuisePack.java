@@ -55,7 +55,7 @@ public final class GuisePack {
     private static final long MISSING = 0x7ff8000000000000L;
     private static final long FRACTION = 0x000fffffffffffffL;
     // No R is as low as this one: it stands for a VALUE that does not FIT.
-    private static final long NO_FIT = Long.MIN_VALUE;
+    private static final long NO_FIT = 0x8000000000000000L;
 
     private final Doubles doubles;
     private final Octets tape;
